@@ -115,7 +115,7 @@ public final class RankStock {
         if (entered.state != OPEN || earlier != null) {
             throw new IllegalStateException("not open, or entered by that rider");
         }
-        entered.entries.add(new Entry(rider, set, wish));
+        entered.addEntry(new Entry(rider, set, wish));
         return entered.entries.size();
     }
 
@@ -612,6 +612,8 @@ public final class RankStock {
         final int fee;
         /** In the order in which they came. */
         final ArrayList<Entry> entries;
+        /** The same ones by their riders, null of those who did not enter. */
+        final Entry[] byRider;
         int state;
         int office;
 
@@ -624,6 +626,7 @@ public final class RankStock {
             this.added = added;
             this.fee = fee;
             entries = new ArrayList<Entry>();
+            byRider = new Entry[MAX_RIDERS];
             state = OPEN;
         }
 
@@ -631,14 +634,15 @@ public final class RankStock {
             return first + performance;
         }
 
-        Entry entryOf(int rider) {
-            for (int i = 0; i < entries.size(); i++) {
-                Entry entry = entries.get(i);
-                if (entry.rider == rider) {
-                    return entry;
-                }
+        void addEntry(Entry entry) {
+            if (entry.rider >= 0 && entry.rider < byRider.length) {
+                byRider[entry.rider] = entry;
+                entries.add(entry);
             }
-            return null;
+        }
+
+        Entry entryOf(int rider) {
+            return rider >= 0 && rider < byRider.length ? byRider[rider] : null;
         }
 
         int countIn(int performance) {

@@ -18,8 +18,15 @@ final class Check {
         try {
             return String.valueOf(call.answer());
         } catch (RuntimeException e) {
-            return "throws." + e.getClass().getSimpleName();
+            return "throws." + e.getClass().getSimpleName() + (isThrownByCode(e) ? "" : " by the library");
         }
+    }
+
+    /** A list's own check of an index bears the due name too, but is not the program's throw. */
+    private static boolean isThrownByCode(RuntimeException e) {
+        StackTraceElement[] frames = e.getStackTrace();
+        String thrower = frames.length == 0 ? "" : frames[0].getClassName();
+        return thrower.startsWith("RankStock") || thrower.startsWith("Model");
     }
 
     static void due(String what, Object want, Call call) {

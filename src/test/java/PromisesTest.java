@@ -612,6 +612,15 @@ public final class PromisesTest {
     }
 
     private static void promise17() {
+        RankStock two = world(2, 1);
+        int only = drawnRodeo(two, 0, 1, 0, 0);
+        ride(two, only, 0, 20);
+        dueBeast(two, "17: drawn and ridden", 1, RankStock.BULL, 1, 0, 20, 0);
+        dueBeast(two, "17: a beast without a trip is ahead of none", 0, RankStock.BULL, 0, 0, 0, RankStock.NONE);
+        beastRanks();
+    }
+
+    private static void beastRanks() {
         RankStock x = world(4, 4);
         Check.due("17: a fifth, a horse", 4, () -> x.beast(RankStock.HORSE));
         dueBeast(x, "17: new", 4, RankStock.HORSE, 0, 0, 0, RankStock.NONE);
@@ -793,10 +802,10 @@ public final class PromisesTest {
         win(x, 15, 1, 100);
         dueRanks(x, "21: like ones by number", 1, 2, 0);
         RankStock all = world(2, 2);
-        win(all, 0, 0, 300);
         for (int i = 0; i < 4; i++) {
-            win(all, 5 + 5 * i, 1, 100);
+            win(all, 5 * i, 1, 100);
         }
+        win(all, 20, 0, 300);
         dueRanks(all, "21: by all pays", 1, 0);
         win(all, 30, 0, 10);
         dueRanks(all, "21: what counts first", 0, 1);

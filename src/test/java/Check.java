@@ -1,4 +1,5 @@
 import java.util.Objects;
+import java.util.function.IntFunction;
 
 /** What the tests share: comparing answers, and looking at all that an object shows. */
 final class Check {
@@ -8,6 +9,7 @@ final class Check {
 
     private static int wrong = 0;
     private static int made = 0;
+    private static String sentence = "";
 
     interface Call {
         Object answer();
@@ -29,6 +31,11 @@ final class Check {
         return thrower.startsWith("RankStock") || thrower.startsWith("Model");
     }
 
+    /** What follows tests these words of the document. */
+    static void sentence(String words) {
+        sentence = words + " | ";
+    }
+
     static void due(String what, Object want, Call call) {
         same(what, String.valueOf(want), answerOf(call));
     }
@@ -38,16 +45,25 @@ final class Check {
         if (!Objects.equals(want, got)) {
             wrong++;
             if (wrong <= 40) {
-                System.out.println(what + " answered " + got + ", due is " + want);
+                System.out.println(sentence + what + " answered " + got + ", due is " + want);
             }
         }
     }
 
     /** The call throws that exception, and nothing that can be seen has changed. */
-    static void refused(RankStock x, String what, String exception, Call call) {
+    static void refused(Office x, String what, String exception, Call call) {
         String before = seen(x);
+        x.keepEach(true);
         due(what, exception, call);
+        x.keepEach(false);
         same(what + ": what is seen after it", before, seen(x));
+    }
+
+    /** The same of each of the values. */
+    static void refusedEach(Office x, String what, String exception, int[] values, IntFunction<Object> call) {
+        for (int value : values) {
+            refused(x, what + " " + value, exception, () -> call.apply(value));
+        }
     }
 
     static int countWrong() {
@@ -66,7 +82,7 @@ final class Check {
     }
 
     /** Every answer that changes nothing, as one text. */
-    static String seen(RankStock x) {
+    static String seen(Office x) {
         StringBuilder all = new StringBuilder();
         int riders = 0;
         while (riders < 20 && isThere(riderProbe(x, riders))) {
@@ -96,15 +112,15 @@ final class Check {
         return all.append(' ').append(x.balances()).toString();
     }
 
-    private static Call riderProbe(RankStock x, int rider) {
+    private static Call riderProbe(Office x, int rider) {
         return () -> x.counts(rider);
     }
 
-    private static Call beastProbe(RankStock x, int beast) {
+    private static Call beastProbe(Office x, int beast) {
         return () -> x.beastIs(beast, 0);
     }
 
-    private static Call rodeoProbe(RankStock x, int rodeo) {
+    private static Call rodeoProbe(Office x, int rodeo) {
         return () -> x.rodeoIs(rodeo, 0);
     }
 

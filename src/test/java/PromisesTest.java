@@ -1,7 +1,7 @@
 /** For each promise of the document: ordinary calls, the edges that it names, and wrong calls. */
 public final class PromisesTest {
-    private static final int TOP = 456975;
-    private static final int FULL = 800800;
+    private static final int TOP = World.TOP;
+    private static final int FULL = World.FULL;
 
     public static void main(String[] args) {
         promise1();
@@ -35,60 +35,21 @@ public final class PromisesTest {
         Check.end("PromisesTest");
     }
 
-    // ---- small worlds
-
-    private static RankStock world(int beasts, int riders) {
-        RankStock x = new RankStock();
-        for (int i = 0; i < beasts; i++) {
-            x.beast(RankStock.BULL);
-        }
-        for (int i = 0; i < riders; i++) {
-            x.rider();
-        }
-        return x;
-    }
-
-    /** A rodeo of one performance, that the riders from 0 enter, closed and drawn. */
-    private static int drawnRodeo(RankStock x, int day, int riders, int added, int fee) {
-        int r = x.rodeo(RankStock.BULL, 0, day, 1, 4, added, fee);
-        for (int k = 0; k < riders; k++) {
-            x.enter(r, k, 1, 0);
-        }
-        x.close(r);
-        x.draw(r);
-        return r;
-    }
-
-    /** A ride with that score, 20 to 70, with no re-ride offered; the beast gets 20 marks of it. */
-    private static int ride(RankStock x, int r, int k, int score) {
-        int forRider = score - 20;
-        return x.ride(r, k, Check.marks(forRider / 2, 10, forRider - forRider / 2, 10), FULL, false);
-    }
-
-    /** A ride of a weak beast, after which a re-ride is offered. */
-    private static int weakRide(RankStock x, int r, int k) {
-        return x.ride(r, k, Check.marks(20, 9, 20, 10), FULL, false);
-    }
-
-    private static void bucked(RankStock x, int r, int k) {
-        x.ride(r, k, Check.marks(20, 10, 20, 10), FULL - 1, false);
-    }
-
-    private static void refusedOfRodeo(RankStock x, String name, java.util.function.IntFunction<Object> call) {
+    private static void refusedOfRodeo(Office x, String name, java.util.function.IntFunction<Object> call) {
         for (int r : new int[] {-1, 1, 8, Integer.MIN_VALUE, Integer.MAX_VALUE}) {
             Check.refused(x, name + " of rodeo " + r, Check.INDEX, () -> call.apply(r));
         }
     }
 
-    private static void refusedOfRider(RankStock x, String name, java.util.function.IntFunction<Object> call) {
+    private static void refusedOfRider(Office x, String name, java.util.function.IntFunction<Object> call) {
         for (int k : new int[] {-1, 2, 12, Integer.MIN_VALUE, Integer.MAX_VALUE}) {
             Check.refused(x, name + " of rider " + k, Check.INDEX, () -> call.apply(k));
         }
     }
 
     /** One rodeo, two riders: what all calls of a rodeo and a rider refuse. */
-    private static RankStock oneRodeo() {
-        RankStock x = world(1, 2);
+    private static Office oneRodeo() {
+        Office x = World.of(1, 2);
         x.rodeo(RankStock.BULL, 0, 0, 2, 2, 10, 1);
         return x;
     }
@@ -96,19 +57,19 @@ public final class PromisesTest {
     // ---- the promises
 
     private static void promise1() {
-        RankStock x = new RankStock();
+        Office x = new Office();
         Check.due("1: no beast", Check.INDEX, () -> x.beastIs(0, 0));
         Check.due("1: no rider", Check.INDEX, () -> x.counts(0));
         Check.due("1: no rodeo", Check.INDEX, () -> x.rodeoIs(0, 0));
         Check.due("1: nobody ranked", RankStock.NONE, () -> x.ranked(0));
         Check.due("1: balances", true, () -> x.balances());
-        RankStock other = world(1, 1);
-        Check.due("1: objects are apart", 0, () -> new RankStock().rider());
+        Office other = World.of(1, 1);
+        Check.due("1: objects are apart", 0, () -> new Office().rider());
         Check.due("1: the other one has its own", 1, () -> other.rider());
     }
 
     private static void promise2() {
-        RankStock x = new RankStock();
+        Office x = new Office();
         for (int i = 0; i < 16; i++) {
             int kind = i % 3 == 0 ? RankStock.HORSE : RankStock.BULL;
             Check.due("2: beast " + i, i, () -> x.beast(kind));
@@ -118,13 +79,13 @@ public final class PromisesTest {
         }
         Check.refused(x, "2: the 17th", Check.STATE, () -> x.beast(0));
         Check.due("2: kinds stay", RankStock.HORSE, () -> x.beastIs(15, 0));
-        RankStock fresh = new RankStock();
+        Office fresh = new Office();
         Check.refused(fresh, "2: kind", Check.ARGUMENT, () -> fresh.beast(2));
         Check.due("2: nothing was added", 0, () -> fresh.beast(1));
     }
 
     private static void promise3() {
-        RankStock x = new RankStock();
+        Office x = new Office();
         for (int i = 0; i < 12; i++) {
             int due = i;
             Check.due("3: rider", due, () -> x.rider());
@@ -135,7 +96,7 @@ public final class PromisesTest {
     private static void promise4() {
         int[] least = {0, 0, 0, 1, 1, 0, 0};
         int[] most = {1, 2000, 60, 4, 4, 99999, 999};
-        RankStock x = new RankStock();
+        Office x = new Office();
         for (int i = 0; i < 7; i++) {
             for (int bad : new int[] {least[i] - 1, most[i] + 1, Integer.MIN_VALUE, Integer.MAX_VALUE}) {
                 int[] a = least.clone();
@@ -155,11 +116,11 @@ public final class PromisesTest {
         Check.due("4: begins OPEN", RankStock.OPEN, () -> x.rodeoIs(7, 0));
     }
 
-    private static int rodeo(RankStock x, int[] a) {
+    private static int rodeo(Office x, int[] a) {
         return x.rodeo(a[0], a[1], a[2], a[3], a[4], a[5], a[6]);
     }
 
-    private static void dueRodeo(RankStock x, String when, int r, int... answers) {
+    private static void dueRodeo(Office x, String when, int r, int... answers) {
         for (int what = 0; what < answers.length; what++) {
             int asked = what;
             Check.due(when + ": rodeoIs " + what, answers[what], () -> x.rodeoIs(r, asked));
@@ -167,7 +128,7 @@ public final class PromisesTest {
     }
 
     private static void promise5() {
-        RankStock x = world(3, 4);
+        Office x = World.of(3, 4);
         int r = x.rodeo(RankStock.BULL, 0, 0, 2, 1, 100, 7);
         dueRodeo(x, "5: new", r, RankStock.OPEN, 0, 0, 0, 0);
         x.enter(r, 0, 1, 0);
@@ -178,8 +139,8 @@ public final class PromisesTest {
         dueRodeo(x, "5: closed", r, RankStock.CLOSED, 3, 2, 114, 0);
         x.draw(r);
         dueRodeo(x, "5: drawn", r, RankStock.DRAWN, 3, 2, 114, 0);
-        ride(x, r, 0, 70);
-        bucked(x, r, 2);
+        World.ride(x, r, 0, 70);
+        World.bucked(x, r, 2);
         dueRodeo(x, "5: ridden", r, RankStock.DRAWN, 3, 2, 114, 0);
         x.pay(r);
         // 45 + 34 + 22 + 11 of 114: all to the one who rode.
@@ -192,7 +153,7 @@ public final class PromisesTest {
     }
 
     private static void promise6() {
-        RankStock x = world(0, 2);
+        Office x = World.of(0, 2);
         int r = x.rodeo(RankStock.BULL, 0, 0, 3, 1, 0, 0);
         refusedOfRodeo(x, "6: enter", n -> x.enter(n, 0, 1, 0));
         refusedOfRider(x, "6: enter", n -> x.enter(r, n, 1, 0));
@@ -219,7 +180,7 @@ public final class PromisesTest {
     }
 
     private static void promise7ByPlaces() {
-        RankStock x = world(0, 6);
+        Office x = World.of(0, 6);
         int r = x.rodeo(RankStock.BULL, 0, 0, 3, 1, 0, 0);
         x.enter(r, 5, 7, 2);
         x.enter(r, 4, 6, 2);
@@ -247,7 +208,7 @@ public final class PromisesTest {
     }
 
     private static void promise7ByWays() {
-        RankStock x = world(0, 2);
+        Office x = World.of(0, 2);
         int home = x.rodeo(RankStock.BULL, 800, 10, 1, 4, 0, 0);
         x.enter(home, 0, 1, 0);
         x.close(home);
@@ -276,7 +237,7 @@ public final class PromisesTest {
     }
 
     private static void promise8() {
-        RankStock x = oneRodeo();
+        Office x = oneRodeo();
         Check.due("8: did not enter", RankStock.NONE, () -> x.placed(0, 0));
         x.enter(0, 0, 3, 1);
         Check.due("8: not closed", RankStock.NONE, () -> x.placed(0, 0));
@@ -284,7 +245,7 @@ public final class PromisesTest {
         Check.due("8: placed", 1, () -> x.placed(0, 0));
         Check.due("8: the other did not enter", RankStock.NONE, () -> x.placed(0, 1));
         x.draw(0);
-        bucked(x, 0, 0);
+        World.bucked(x, 0, 0);
         x.pay(0);
         Check.due("8: still, as it is PAID", 1, () -> x.placed(0, 0));
         refusedOfRodeo(x, "8: placed", n -> x.placed(n, 0));
@@ -292,7 +253,7 @@ public final class PromisesTest {
     }
 
     private static void promise9() {
-        RankStock x = world(0, 6);
+        Office x = World.of(0, 6);
         int r = x.rodeo(RankStock.BULL, 0, 10, 3, 1, 0, 0);
         refusedOfRodeo(x, "9: most", n -> x.most(n));
         Check.due("9: without entries", 0, () -> x.most(r));
@@ -315,7 +276,7 @@ public final class PromisesTest {
     }
 
     private static void mostByWays() {
-        RankStock x = world(0, 2);
+        Office x = World.of(0, 2);
         int asked = x.rodeo(RankStock.BULL, 0, 5, 2, 2, 0, 0);
         int other = x.rodeo(RankStock.HORSE, 401, 6, 1, 1, 0, 0);
         x.enter(asked, 0, 3, 0);
@@ -333,7 +294,7 @@ public final class PromisesTest {
     }
 
     /** Which of 16 beasts is drawn first tells the number by 16. */
-    private static int firstOf16(RankStock x) {
+    private static int firstOf16(Office x) {
         int r = x.rodeo(RankStock.BULL, 0, 0, 1, 1, 0, 0);
         x.enter(r, 0, 1, 0);
         x.close(r);
@@ -342,28 +303,28 @@ public final class PromisesTest {
     }
 
     private static void promise10() {
-        RankStock first = world(16, 1);
+        Office first = World.of(16, 1);
         Check.due("10: 1 at first, then 149", 149 % 16, () -> firstOf16(first));
         int[] told = {0, 1, 2, 873, 874, 65535, 65536};
         for (int number : told) {
-            RankStock x = world(16, 1);
+            Office x = World.of(16, 1);
             x.hide(number);
             Check.due("10: told " + number, (75 * number + 74) % 65537 % 16, () -> firstOf16(x));
         }
-        RankStock wrong = world(16, 1);
+        Office wrong = World.of(16, 1);
         for (int number : new int[] {-1, 65537, Integer.MIN_VALUE, Integer.MAX_VALUE}) {
             Check.refused(wrong, "10: " + number, Check.ARGUMENT, () -> hidden(wrong, number));
         }
         Check.due("10: nothing has changed", 149 % 16, () -> firstOf16(wrong));
     }
 
-    private static String hidden(RankStock x, int number) {
+    private static String hidden(Office x, int number) {
         x.hide(number);
         return "fine";
     }
 
     private static void promise11() {
-        RankStock x = new RankStock();
+        Office x = new Office();
         for (int i = 0; i < 9; i++) {
             x.beast(i % 2);
         }
@@ -391,7 +352,7 @@ public final class PromisesTest {
         Check.refused(x, "11: twice", Check.STATE, () -> x.draw(r));
         refusedOfRodeo(x, "11: draw", n -> x.draw(n));
         for (int k : new int[] {0, 1, 2, 4}) {
-            bucked(x, r, k);
+            World.bucked(x, r, k);
         }
         x.pay(r);
         Check.refused(x, "11: PAID", Check.STATE, () -> x.draw(r));
@@ -406,7 +367,7 @@ public final class PromisesTest {
     private static void promise11Rest() {
         int[] days = {10, 12, 11, 9, 13, 14, 8, 7};
         boolean[] has = {true, true, false, false, false, true, true, false};
-        RankStock x = world(1, 8);
+        Office x = World.of(1, 8);
         for (int i = 0; i < days.length; i++) {
             int r = x.rodeo(RankStock.BULL, 0, days[i], 1, 1, 0, 0);
             x.enter(r, i, 1, 0);
@@ -414,7 +375,7 @@ public final class PromisesTest {
             int due = has[i] ? 1 : 0;
             Check.due("11: rest on the day " + days[i], due, () -> x.draw(r));
         }
-        RankStock edge = world(1, 3);
+        Office edge = World.of(1, 3);
         int[] edges = {63, 0, 62};
         for (int i = 0; i < 3; i++) {
             int performance = i == 1 ? 0 : edges[i] - 60;
@@ -427,7 +388,7 @@ public final class PromisesTest {
     }
 
     private static void promise12() {
-        RankStock x = oneRodeo();
+        Office x = oneRodeo();
         x.enter(0, 1, 1, 0);
         Check.due("12: did not enter", RankStock.NONE, () -> x.drawn(0, 0));
         Check.due("12: entered", RankStock.NONE, () -> x.drawn(0, 1));
@@ -435,7 +396,7 @@ public final class PromisesTest {
         Check.due("12: closed", RankStock.NONE, () -> x.drawn(0, 1));
         x.draw(0);
         Check.due("12: drawn", 0, () -> x.drawn(0, 1));
-        bucked(x, 0, 1);
+        World.bucked(x, 0, 1);
         Check.due("12: ridden", 0, () -> x.drawn(0, 1));
         x.pay(0);
         Check.due("12: paid", 0, () -> x.drawn(0, 1));
@@ -444,13 +405,13 @@ public final class PromisesTest {
     }
 
     private static void promise13() {
-        RankStock x = world(4, 5);
+        Office x = World.of(4, 5);
         int open = x.rodeo(RankStock.BULL, 0, 0, 1, 4, 0, 0);
         x.enter(open, 0, 1, 0);
         Check.refused(x, "13: OPEN", Check.STATE, () -> x.ride(open, 0, TOP, FULL, false));
         x.close(open);
         Check.refused(x, "13: CLOSED", Check.STATE, () -> x.ride(open, 0, TOP, FULL, false));
-        int r = drawnRodeo(x, 30, 3, 0, 0);
+        int r = World.drawnRodeo(x, 30, 3, 0, 0);
         for (int marks : new int[] {-1, TOP + 1, Integer.MIN_VALUE, Integer.MAX_VALUE}) {
             Check.refused(x, "13: marks " + marks, Check.ARGUMENT, () -> x.ride(r, 0, marks, FULL, false));
             Check.refused(x, "13: marks, not DRAWN", Check.ARGUMENT, () -> x.ride(open, 0, marks, FULL, false));
@@ -471,7 +432,7 @@ public final class PromisesTest {
         refusedOfRider2(x, r);
     }
 
-    private static void refusedOfRider2(RankStock x, int r) {
+    private static void refusedOfRider2(Office x, int r) {
         for (int n : new int[] {-1, 5, 12, Integer.MIN_VALUE, Integer.MAX_VALUE}) {
             Check.refused(x, "13: rider " + n, Check.INDEX, () -> x.ride(r, n, 0, 0, false));
         }
@@ -485,14 +446,14 @@ public final class PromisesTest {
         boolean[] isGood = {true, false, false, true, false, true, false, false, false, false, true};
         for (int i = 0; i < watches.length; i++) {
             int told = watches[i];
-            RankStock x = world(1, 1);
-            int r = drawnRodeo(x, 0, 1, 0, 0);
+            Office x = World.of(1, 1);
+            int r = World.drawnRodeo(x, 0, 1, 0, 0);
             int due = isGood[i] ? 100 : 0;
             Check.due("13: watches " + told, due, () -> x.ride(r, 0, TOP, told, false));
             Check.due("13: bucked off by " + told, isGood[i] ? 0 : 1, () -> x.beastIs(0, 2));
         }
-        RankStock x = world(1, 1);
-        int r = drawnRodeo(x, 0, 1, 0, 0);
+        Office x = World.of(1, 1);
+        int r = World.drawnRodeo(x, 0, 1, 0, 0);
         Check.due("13: a foul", 0, () -> x.ride(r, 0, TOP, 999999, true));
         Check.due("13: a foul is a buck-off", 1, () -> x.beastIs(0, 2));
         Check.due("13: marks all the same", 50, () -> x.beastIs(0, 3));
@@ -504,32 +465,32 @@ public final class PromisesTest {
     private static void promise14() {
         int[][] beastMarks = {{10, 10}, {10, 9}, {0, 19}, {0, 20}, {25, 0}, {0, 0}, {19, 0}, {20, 0}};
         for (int[] two : beastMarks) {
-            RankStock x = world(1, 1);
-            int r = drawnRodeo(x, 0, 1, 0, 0);
+            Office x = World.of(1, 1);
+            int r = World.drawnRodeo(x, 0, 1, 0, 0);
             Check.due("14: not ridden", false, () -> x.isOffered(r, 0));
             x.ride(r, 0, Check.marks(25, two[0], 25, two[1]), FULL, false);
             Check.due("14: marks for the beast", two[0] + two[1] < 20, () -> x.isOffered(r, 0));
         }
-        RankStock x = world(1, 2);
-        int r = drawnRodeo(x, 0, 1, 0, 0);
+        Office x = World.of(1, 2);
+        int r = World.drawnRodeo(x, 0, 1, 0, 0);
         x.ride(r, 0, 0, FULL - 1, false);
         Check.due("14: not after a buck-off", false, () -> x.isOffered(r, 0));
         Check.due("14: did not enter", false, () -> x.isOffered(r, 1));
         refusedOfRodeo(x, "14: isOffered", n -> x.isOffered(n, 0));
         refusedOfRider(x, "14: isOffered", n -> x.isOffered(r, n));
-        RankStock foul = world(1, 1);
-        int s = drawnRodeo(foul, 0, 1, 0, 0);
+        Office foul = World.of(1, 1);
+        int s = World.drawnRodeo(foul, 0, 1, 0, 0);
         foul.ride(s, 0, 0, FULL, true);
         Check.due("14: not after a foul", false, () -> foul.isOffered(s, 0));
     }
 
     private static void promise15() {
-        RankStock x = world(3, 2);
-        int r = drawnRodeo(x, 0, 1, 100, 0);
+        Office x = World.of(3, 2);
+        int r = World.drawnRodeo(x, 0, 1, 100, 0);
         int first = x.drawn(r, 0);
         Check.refused(x, "15: not ridden", Check.STATE, () -> x.answer(r, 0, true));
         Check.refused(x, "15: did not enter", Check.STATE, () -> x.answer(r, 1, false));
-        Check.due("15: the weak ride's score", 59, () -> weakRide(x, r, 0));
+        Check.due("15: the weak ride's score", 59, () -> World.weakRide(x, r, 0));
         refusedOfRodeo(x, "15: answer", n -> x.answer(n, 0, true));
         refusedOfRider(x, "15: answer", n -> x.answer(r, n, true));
         // 149 modulo 3 took the beast 2; 11249 modulo 2 takes the place 1 of 0 and 1.
@@ -540,15 +501,15 @@ public final class PromisesTest {
         Check.due("15: the score is gone", RankStock.NONE, () -> x.score(r, 0));
         Check.refused(x, "15: answered", Check.STATE, () -> x.answer(r, 0, true));
         Check.refused(x, "15: not paid ahead of the re-ride", Check.STATE, () -> x.pay(r));
-        Check.due("15: rides once more", 59, () -> weakRide(x, r, 0));
+        Check.due("15: rides once more", 59, () -> World.weakRide(x, r, 0));
         Check.due("15: no re-ride of a re-ride", false, () -> x.isOffered(r, 0));
         Check.refused(x, "15: nor an answer", Check.STATE, () -> x.answer(r, 0, false));
         Check.refused(x, "15: nor a third ride", Check.STATE, () -> x.ride(r, 0, TOP, FULL, false));
         Check.due("15: the first beast's trip stays", 1, () -> x.beastIs(2, 1));
         Check.due("15: the first beast's marks stay", 19, () -> x.beastIs(2, 3));
         Check.due("15: paid", 1, () -> x.pay(r));
-        int left = drawnRodeo(x, 10, 2, 100, 0);
-        weakRide(x, left, 0);
+        int left = World.drawnRodeo(x, 10, 2, 100, 0);
+        World.weakRide(x, left, 0);
         Check.due("15: left", RankStock.NONE, () -> x.answer(left, 0, false));
         Check.due("15: the score stays", 59, () -> x.score(left, 0));
         Check.refused(x, "15: left is left", Check.STATE, () -> x.answer(left, 0, true));
@@ -556,38 +517,38 @@ public final class PromisesTest {
     }
 
     private static void promise15Lost() {
-        RankStock x = world(2, 2);
-        int r = drawnRodeo(x, 5, 2, 100, 0);
-        weakRide(x, r, 0);
+        Office x = World.of(2, 2);
+        int r = World.drawnRodeo(x, 5, 2, 100, 0);
+        World.weakRide(x, r, 0);
         Check.due("15: no beast is left", RankStock.NONE, () -> x.answer(r, 0, true));
         Check.due("15: turned out", RankStock.NONE, () -> x.drawn(r, 0));
         Check.due("15: the score is gone all the same", RankStock.NONE, () -> x.score(r, 0));
         Check.refused(x, "15: rides no more", Check.STATE, () -> x.ride(r, 0, TOP, FULL, false));
         Check.refused(x, "15: no offer", Check.STATE, () -> x.answer(r, 0, true));
         Check.due("15: stays placed", 0, () -> x.placed(r, 0));
-        bucked(x, r, 1);
+        World.bucked(x, r, 1);
         Check.due("15: nobody counts", 0, () -> x.pay(r));
         Check.due("15: all stays", 100, () -> x.rodeoIs(r, 4));
-        RankStock day = world(2, 2);
-        int on = drawnRodeo(day, 10, 1, 0, 0);
+        Office day = World.of(2, 2);
+        int on = World.drawnRodeo(day, 10, 1, 0, 0);
         int taken = day.drawn(on, 0);
-        weakRide(day, on, 0);
+        World.weakRide(day, on, 0);
         Check.due("15: the other one", 1 - taken, () -> day.answer(on, 0, true));
-        int next = drawnRodeo(day, 11, 2, 0, 0);
+        int next = World.drawnRodeo(day, 11, 2, 0, 0);
         Check.due("15: that rests too", RankStock.NONE, () -> day.drawn(next, 1));
         Check.due("15: of none", RankStock.NONE, () -> day.drawn(next, 0));
     }
 
     private static void promise16() {
-        RankStock x = world(2, 2);
-        int r = drawnRodeo(x, 0, 1, 0, 0);
+        Office x = World.of(2, 2);
+        int r = World.drawnRodeo(x, 0, 1, 0, 0);
         Check.due("16: without a ride", RankStock.NONE, () -> x.score(r, 0));
         Check.due("16: did not enter", RankStock.NONE, () -> x.score(r, 1));
-        weakRide(x, r, 0);
+        World.weakRide(x, r, 0);
         Check.due("16: stands while it is offered", 59, () -> x.score(r, 0));
         x.answer(r, 0, true);
         Check.due("16: gone", RankStock.NONE, () -> x.score(r, 0));
-        bucked(x, r, 0);
+        World.bucked(x, r, 0);
         Check.due("16: of a buck-off", 0, () -> x.score(r, 0));
         x.pay(r);
         Check.due("16: as it is PAID", 0, () -> x.score(r, 0));
@@ -595,7 +556,7 @@ public final class PromisesTest {
         refusedOfRider(x, "16: score", n -> x.score(r, n));
     }
 
-    private static void dueBeast(RankStock x, String when, int beast, int... answers) {
+    private static void dueBeast(Office x, String when, int beast, int... answers) {
         for (int what = 0; what < answers.length; what++) {
             int asked = what;
             Check.due(when + ": beastIs " + beast + " " + what, answers[what], () -> x.beastIs(beast, asked));
@@ -603,7 +564,7 @@ public final class PromisesTest {
     }
 
     /** One ride of the one beast that is not resting on that day. */
-    private static void trip(RankStock x, int beast, int rodeo, int marks, boolean isGood) {
+    private static void trip(Office x, int beast, int rodeo, int marks, boolean isGood) {
         for (int k = 0; k < 4; k++) {
             if (x.drawn(rodeo, k) == beast) {
                 x.ride(rodeo, k, Check.marks(0, marks / 2, 0, marks - marks / 2), FULL, !isGood);
@@ -612,19 +573,19 @@ public final class PromisesTest {
     }
 
     private static void promise17() {
-        RankStock two = world(2, 1);
-        int only = drawnRodeo(two, 0, 1, 0, 0);
-        ride(two, only, 0, 20);
+        Office two = World.of(2, 1);
+        int only = World.drawnRodeo(two, 0, 1, 0, 0);
+        World.ride(two, only, 0, 20);
         dueBeast(two, "17: drawn and ridden", 1, RankStock.BULL, 1, 0, 20, 0);
         dueBeast(two, "17: a beast without a trip is ahead of none", 0, RankStock.BULL, 0, 0, 0, RankStock.NONE);
         beastRanks();
     }
 
     private static void beastRanks() {
-        RankStock x = world(4, 4);
+        Office x = World.of(4, 4);
         Check.due("17: a fifth, a horse", 4, () -> x.beast(RankStock.HORSE));
         dueBeast(x, "17: new", 4, RankStock.HORSE, 0, 0, 0, RankStock.NONE);
-        int one = drawnRodeo(x, 0, 4, 0, 0);
+        int one = World.drawnRodeo(x, 0, 4, 0, 0);
         dueBeast(x, "17: drawn, not ridden", 0, RankStock.BULL, 0, 0, 0, RankStock.NONE);
         trip(x, 0, one, 30, true);
         trip(x, 1, one, 40, true);
@@ -635,7 +596,7 @@ public final class PromisesTest {
         dueBeast(x, "17: no trip", 3, RankStock.BULL, 0, 0, 0, RankStock.NONE);
         trip(x, 3, one, 0, false);
         dueBeast(x, "17: the one that bucked off", 3, RankStock.BULL, 1, 1, 0, 0);
-        int two = drawnRodeo(x, 10, 4, 0, 0);
+        int two = World.drawnRodeo(x, 10, 4, 0, 0);
         trip(x, 3, two, 20, true);
         trip(x, 1, two, 20, true);
         trip(x, 2, two, 10, false);
@@ -643,7 +604,7 @@ public final class PromisesTest {
         dueBeast(x, "17: 1 by 2, 20 by 2", 3, RankStock.BULL, 2, 1, 20, 1);
         dueBeast(x, "17: 0 by 1, 30 by 1", 0, RankStock.BULL, 1, 0, 30, 2);
         dueBeast(x, "17: 0 by 2, 60 by 2, the higher number", 1, RankStock.BULL, 2, 0, 60, 3);
-        int three = drawnRodeo(x, 20, 4, 0, 0);
+        int three = World.drawnRodeo(x, 20, 4, 0, 0);
         trip(x, 0, three, 0, false);
         trip(x, 2, three, 50, true);
         dueBeast(x, "17: 1 by 3, 90 by 3", 2, RankStock.BULL, 3, 1, 90, 2);
@@ -659,12 +620,12 @@ public final class PromisesTest {
     }
 
     private static void promise18() {
-        RankStock x = world(4, 4);
-        int r = drawnRodeo(x, 0, 4, 1000, 0);
+        Office x = World.of(4, 4);
+        int r = World.drawnRodeo(x, 0, 4, 1000, 0);
         for (int k = 0; k < 4; k++) {
             int rider = k;
             Check.refused(x, "18: one has not ridden", Check.STATE, () -> x.pay(r));
-            Check.due("18: rides", 60 + k, () -> ride(x, r, rider, 60 + rider));
+            Check.due("18: rides", 60 + k, () -> World.ride(x, r, rider, 60 + rider));
         }
         Check.due("18: four count", 4, () -> x.pay(r));
         for (int k = 0; k < 4; k++) {
@@ -677,7 +638,7 @@ public final class PromisesTest {
     }
 
     private static void promise18When() {
-        RankStock x = world(1, 3);
+        Office x = World.of(1, 3);
         int r = x.rodeo(RankStock.BULL, 0, 0, 1, 2, 100, 10);
         Check.refused(x, "18: OPEN", Check.STATE, () -> x.pay(r));
         x.enter(r, 0, 1, 0);
@@ -687,12 +648,12 @@ public final class PromisesTest {
         Check.refused(x, "18: CLOSED", Check.STATE, () -> x.pay(r));
         x.draw(r);
         Check.refused(x, "18: not ridden", Check.STATE, () -> x.pay(r));
-        weakRide(x, r, 0);
+        World.weakRide(x, r, 0);
         Check.refused(x, "18: an offer is open", Check.STATE, () -> x.pay(r));
         x.answer(r, 0, false);
         Check.due("18: one is turned out, one is out", 1, () -> x.pay(r));
         Check.due("18: both fees", 120, () -> x.got(r, 0));
-        RankStock none = new RankStock();
+        Office none = new Office();
         none.rodeo(RankStock.HORSE, 0, 0, 1, 1, 77, 5);
         none.close(0);
         none.draw(0);
@@ -702,7 +663,7 @@ public final class PromisesTest {
 
     /** Scores of up to eight riders in two performances, -1 a buck-off; what they get and what stays. */
     private static void money(String what, int added, int[] scores, int[] gets, int office) {
-        RankStock x = world(16, scores.length);
+        Office x = World.of(16, scores.length);
         int r = x.rodeo(RankStock.BULL, 0, 0, 4, 4, added, 0);
         for (int k = 0; k < scores.length; k++) {
             x.enter(r, k, 15, k % 4);
@@ -712,12 +673,12 @@ public final class PromisesTest {
         int good = 0;
         for (int k = 0; k < scores.length; k++) {
             if (scores[k] < 0) {
-                bucked(x, r, k);
+                World.bucked(x, r, k);
             } else if (scores[k] < 20) {
                 x.ride(r, k, scores[k], FULL, false);
                 x.answer(r, k, false);
             } else {
-                ride(x, r, k, scores[k]);
+                World.ride(x, r, k, scores[k]);
             }
             good += scores[k] < 0 ? 0 : 1;
         }
@@ -750,9 +711,9 @@ public final class PromisesTest {
     }
 
     private static void promise19() {
-        RankStock x = world(2, 2);
-        int r = drawnRodeo(x, 0, 1, 100, 0);
-        ride(x, r, 0, 60);
+        Office x = World.of(2, 2);
+        int r = World.drawnRodeo(x, 0, 1, 100, 0);
+        World.ride(x, r, 0, 60);
         Check.due("19: ahead of its being paid", 0, () -> x.got(r, 0));
         x.pay(r);
         Check.due("19: paid", 100, () -> x.got(r, 0));
@@ -761,30 +722,20 @@ public final class PromisesTest {
         refusedOfRider(x, "19: got", n -> x.got(r, n));
     }
 
-    /** A rodeo that one rider alone enters and wins: all its money, if it is a multiple of 10. */
-    private static void win(RankStock x, int day, int rider, int money) {
-        int r = x.rodeo(RankStock.BULL, 0, day, 1, 1, money, 0);
-        x.enter(r, rider, 1, 0);
-        x.close(r);
-        x.draw(r);
-        ride(x, r, rider, 60);
-        x.pay(r);
-    }
-
     private static void promise20() {
-        RankStock x = world(1, 2);
+        Office x = World.of(1, 2);
         Check.due("20: nothing yet", 0, () -> x.counts(0));
         int[] pays = {50, 10, 30, 40, 20, 60, 40, 0};
         int[] due = {50, 60, 90, 120, 120, 150, 150, 150};
         for (int i = 0; i < pays.length; i++) {
-            win(x, 5 * i, 0, pays[i]);
+            World.win(x, 5 * i, 0, pays[i]);
             Check.due("20: after " + (i + 1), due[i], () -> x.counts(0));
         }
         Check.due("20: the other one", 0, () -> x.counts(1));
         refusedOfRider(x, "20: counts", n -> x.counts(n));
     }
 
-    private static void dueRanks(RankStock x, String when, int... riders) {
+    private static void dueRanks(Office x, String when, int... riders) {
         for (int rank = 0; rank < 12; rank++) {
             int asked = rank;
             int due = rank < riders.length ? riders[rank] : RankStock.NONE;
@@ -793,41 +744,41 @@ public final class PromisesTest {
     }
 
     private static void promise21() {
-        RankStock x = world(2, 3);
+        Office x = World.of(2, 3);
         dueRanks(x, "21: like ones", 0, 1, 2);
-        win(x, 0, 2, 300);
+        World.win(x, 0, 2, 300);
         dueRanks(x, "21: by what they count", 2, 0, 1);
-        win(x, 5, 1, 100);
-        win(x, 10, 1, 100);
-        win(x, 15, 1, 100);
+        World.win(x, 5, 1, 100);
+        World.win(x, 10, 1, 100);
+        World.win(x, 15, 1, 100);
         dueRanks(x, "21: like ones by number", 1, 2, 0);
-        RankStock all = world(2, 2);
+        Office all = World.of(2, 2);
         for (int i = 0; i < 4; i++) {
-            win(all, 5 * i, 1, 100);
+            World.win(all, 5 * i, 1, 100);
         }
-        win(all, 20, 0, 300);
+        World.win(all, 20, 0, 300);
         dueRanks(all, "21: by all pays", 1, 0);
-        win(all, 30, 0, 10);
+        World.win(all, 30, 0, 10);
         dueRanks(all, "21: what counts first", 0, 1);
         for (int rank : new int[] {-1, 12, Integer.MIN_VALUE, Integer.MAX_VALUE}) {
             Check.refused(all, "21: rank " + rank, Check.ARGUMENT, () -> all.ranked(rank));
         }
-        dueRanks(new RankStock(), "21: nobody");
-        dueRanks(world(0, 12), "21: twelve", 0, 1, 2, 3, 4, 5, 6, 7, 8, 9, 10, 11);
+        dueRanks(new Office(), "21: nobody");
+        dueRanks(World.of(0, 12), "21: twelve", 0, 1, 2, 3, 4, 5, 6, 7, 8, 9, 10, 11);
     }
 
     private static void promise22() {
-        RankStock x = world(3, 4);
+        Office x = World.of(3, 4);
         Check.due("22: at first", true, () -> x.balances());
         for (int i = 0; i < 8; i++) {
-            int r = drawnRodeo(x, 2 * i, 4, 101 + i, 13);
+            int r = World.drawnRodeo(x, 2 * i, 4, 101 + i, 13);
             Check.due("22: drawn", true, () -> x.balances());
             for (int k = 0; k < 4; k++) {
                 if (x.drawn(r, k) != RankStock.NONE) {
-                    weakRide(x, r, k);
+                    World.weakRide(x, r, k);
                     x.answer(r, k, k == i % 4);
                     if (x.score(r, k) == RankStock.NONE && x.drawn(r, k) != RankStock.NONE) {
-                        bucked(x, r, k);
+                        World.bucked(x, r, k);
                     }
                 }
             }

@@ -164,7 +164,7 @@ public final class ModelTest {
         }
         Check.same("run " + run + ": " + call, Check.answerOf(model), Check.answerOf(program));
         made++;
-        if (any(60) == 0) {
+        if (any(150) == 0) {
             sameShown();
         }
     }

